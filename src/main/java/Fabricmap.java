@@ -922,7 +922,7 @@ public final class Fabricmap {
             return false;
         }
 
-        /** Takes back the route laid last: what it was the first one to take is shared by none laid before. */
+        /** Takes back the route laid last: what it was the first one to take is shared by none that stays. */
         void unlay(int slot) {
             int node = loop.sources[slot];
             int cell = places.cells[node];
@@ -950,8 +950,8 @@ public final class Fabricmap {
             boolean fits = true;
             traffic.empty();
             for (int slot = 0; slot < SLOTS; slot++) {
-                if (lengths[slot] >= 0) {
-                    fits &= retake(slot);
+                if (lengths[slot] >= 0 && !retake(slot)) {
+                    fits = false;
                 }
             }
             return fits;
@@ -965,7 +965,7 @@ public final class Fabricmap {
                 int key = Traffic.key(node, beat);
                 int rest = restOf(node, beat);
                 int way = way(slot, beat);
-                fits &= traffic.isFree(key, rest, cell, way);
+                fits = fits && traffic.isFree(key, rest, cell, way);
                 traffic.take(key, rest, cell, way);
                 cell = grid.beside(cell, way);
             }

@@ -25,6 +25,7 @@ public final class PromiseTest {
         clearAndNodes();
         barsInItsOrder();
         barsByOrderOfMemory();
+        barsByRoundsFrom0To15();
         barsByRoutes();
         placeAndRoutes();
         sharedNumbers();
@@ -221,6 +222,10 @@ public final class PromiseTest {
         C.due("whole", '-', () -> x.bars(0, 4, 0));
         C.due("heal again", false, () -> x.heal(4));
         C.due("its wire is cut still", true, () -> x.mend(4, 'n'));
+        Fabricmap y = pair(2, 1, 0, 2);
+        y.kill(1);
+        y.heal(1);
+        C.due("routes lead to it again", '-', () -> y.bars(1, 1, 2));
     }
 
     private static void cut() {
@@ -245,6 +250,12 @@ public final class PromiseTest {
         C.due("round about", "se", () -> route(x, 1, 1));
         C.due("cut that too", 1, () -> x.cut(0, 's'));
         C.due("no way left", 'r', () -> x.bars(1, 3, 3));
+        Fabricmap y = pair(3, 1, 2, 4);
+        y.two('*', 0, 0, 0, 0);
+        y.place(1, 2, 3);
+        y.place(2, 1, 2);
+        C.due("cut what two share", 2, () -> y.cut(0, 'e'));
+        C.due("neither is placed", -1, () -> Math.max(y.at(2, 3), y.at(1, 2)));
     }
 
     private static void mend() {
@@ -259,6 +270,11 @@ public final class PromiseTest {
         C.due("mend again", false, () -> x.mend(0, 'e'));
         x.kill(0);
         C.due("a wire of a dead cell can be cut", 0, () -> x.cut(0, 'e'));
+        Fabricmap y = pair(2, 1, 0, 2);
+        y.cut(0, 'e');
+        C.due("no way along the cut", 'r', () -> y.bars(1, 1, 2));
+        y.mend(0, 'e');
+        C.due("the way is free again", '-', () -> y.bars(1, 1, 2));
     }
 
     private static void bank() {
@@ -401,6 +417,8 @@ public final class PromiseTest {
         C.index("no test", () -> x.choice(0, 0, 0));
         x.constant(-1);
         x.round();
+        C.index("no test alone", () -> x.choice(2, 0, 1));
+        C.index("test -1", () -> x.choice(-1, 0, 1));
         C.index("no one", () -> x.choice(0, 2, 0));
         C.index("no other", () -> x.choice(0, 0, -1));
         C.due("choice", 2, () -> x.choice(1, 0, 1));
@@ -410,6 +428,10 @@ public final class PromiseTest {
         C.due("-1 is not", 9, () -> x.number(3, 9));
         C.index("a fourth operand", () -> x.feed(2, 3, 0, 1));
         C.due("the third operand", 1, () -> x.feed(2, 2, 0, 1));
+        x.constant(8);
+        C.due("choice of two others", 5, () -> x.choice(1, 4, 3));
+        C.due("the second operand", 8, () -> x.number(5, 1));
+        C.due("the third one again", 0, () -> x.number(5, 0));
         Fabricmap y = full();
         C.index("no node is first", () -> y.choice(0, 12, 0));
         C.state("a thirteenth", () -> y.choice(0, 0, 0));
@@ -452,7 +474,8 @@ public final class PromiseTest {
         C.due("it counts too", 0, () -> x.number(1, 3));
         x.clear();
         x.round();
-        C.due("first behind clear", 0, () -> x.first(0, 1));
+        x.round();
+        C.due("first behind clear", 0, () -> x.first(1, 1));
     }
 
     private static void clearAndNodes() {
@@ -559,6 +582,49 @@ public final class PromiseTest {
         v.place(1, 3, 3);
         v.lift(0);
         C.due("nor ahead", 'o', () -> v.bars(0, 0, 5));
+    }
+
+    /** A load that has the store's one place in one round only, the first or the last. */
+    private static Fabricmap once(int offset, boolean loadIsFirst) {
+        Fabricmap x = new Fabricmap();
+        x.constant(1);
+        x.interval(4);
+        if (loadIsFirst) {
+            x.load(0, 1, offset);
+            x.store(0, 0, 0, 0, 0);
+        } else {
+            x.store(0, 0, 0, 0, 0);
+            x.load(0, 1, offset);
+        }
+        return x;
+    }
+
+    private static void barsByRoundsFrom0To15() {
+        Fabricmap x = once(0, true);
+        x.place(1, 0, 6);
+        C.due("behind the load of the round 0", '-', () -> x.bars(2, 3, 31));
+        C.due("ahead of the load of the round 0", 'm', () -> x.bars(2, 3, 5));
+        x.lift(1);
+        x.place(2, 0, 31);
+        C.due("the load ahead of all stores", '-', () -> x.bars(1, 3, 0));
+        C.due("the load just ahead of them", '-', () -> x.bars(1, 3, 30));
+        Fabricmap y = once(0, false);
+        y.place(1, 0, 10);
+        C.due("between the first store and the next one", '-', () -> y.bars(2, 3, 13));
+        C.due("behind the next one", 'm', () -> y.bars(2, 3, 15));
+        C.due("ahead of the first one", 'm', () -> y.bars(2, 3, 9));
+        Fabricmap z = once(1, false);
+        z.place(1, 0, 2);
+        C.due("behind the store of the round 15", '-', () -> z.bars(2, 3, 31));
+        C.due("ahead of the store of the round 15", 'm', () -> z.bars(2, 3, 1));
+        z.lift(1);
+        z.place(2, 0, 30);
+        C.due("the stores ahead of the load", '-', () -> z.bars(1, 3, 1));
+        Fabricmap w = once(1, true);
+        w.place(1, 0, 10);
+        C.due("between the last store but one and the last one", '-', () -> w.bars(2, 3, 13));
+        C.due("the last store but one comes too late", 'm', () -> w.bars(2, 3, 15));
+        C.due("the last store comes too early", 'm', () -> w.bars(2, 3, 9));
     }
 
     private static void barsByRoutes() {
@@ -672,6 +738,16 @@ public final class PromiseTest {
         z.interval(4);
         z.place(0, 0, 0);
         C.due("by another rest it is free", '-', () -> z.bars(1, 1, 4));
+        Fabricmap w = pair(2, 1, 1, 1);
+        C.due("four beats are too many for two registers and two wires", 'r', () -> w.bars(1, 1, 5));
+        C.due("no register is taken by what was tried", 0, () -> w.held(0, 0) + w.held(1, 0));
+        C.due("no wire is taken by what was tried", false, () -> w.isTaken(0, 'e', 0) || w.isTaken(1, 'w', 0));
+        w.square(2, 2, 1);
+        w.place(0, 0, 0);
+        C.due("with four cells there is a way", 2, () -> w.place(1, 1, 5));
+        C.due("stays, goes, and comes back another way", ".esn", () -> route(w, 1, 0));
+        C.due("it stays once", 1, () -> w.held(0, 0));
+        C.due("and not where it was tried", 0, () -> w.held(1, 0));
     }
 
     private static void lift() {
@@ -994,6 +1070,12 @@ public final class PromiseTest {
         x.kill(1);
         C.due("share with dead cells", 1f / 24f, () -> x.share());
         C.due("share of none", 0f, () -> new Fabricmap().share());
+        Fabricmap z = new Fabricmap();
+        z.constant(1);
+        z.store(0, 0, 0, 0, 0);
+        z.place(0, 1, 0);
+        z.place(1, 3, 4);
+        C.due("mean of one", 3.0, () -> z.meanLength());
         Fabricmap y = pair(1, 1, 0, 2);
         y.place(1, 0, 1);
         C.due("mean of no beats", 0.0, () -> y.meanLength());
@@ -1013,6 +1095,13 @@ public final class PromiseTest {
         C.due("it stores nothing", 0, () -> x.get(0, 3));
         x.kill(0);
         C.due("sound behind a dead cell", true, () -> x.isSound());
+        Fabricmap y = pair(3, 3, 2, 3);
+        C.due("sound with a user not placed", true, () -> y.isSound());
+        y.place(1, 8, 5);
+        y.two('*', 1, 0, 0, 0);
+        C.due("sound with a node not placed", true, () -> y.isSound());
+        y.lift(0);
+        C.due("sound with an operand not placed", true, () -> y.isSound());
         x.map();
         C.due("sound mapped again", true, () -> x.isSound());
         C.due("taken is as before", x.held(3, 0), () -> x.held(3, 0));

@@ -58,13 +58,16 @@ public final class RandomRunsTest {
         same("square", 1 + random.nextInt(4), 1 + random.nextInt(4), random.nextInt(3));
         same("interval", 1 + random.nextInt(random.nextBoolean() ? 3 : 8));
         int nodes = random.nextInt(13);
+        boolean manyStores = random.nextInt(4) == 0;
         same("round");
         same("load", random.nextInt(2), random.nextInt(7) - 3, random.nextInt(4));
         for (int i = 2; i < nodes; i++) {
-            int one = random.nextInt(i);
+            int one = manyStores ? 0 : random.nextInt(i);
             int other = random.nextInt(i);
-            if (random.nextInt(4) == 0) {
-                same("store", random.nextInt(3), random.nextInt(7) - 3, random.nextInt(4), one, random.nextInt(4));
+            if (manyStores && random.nextInt(3) == 0) {
+                same("load", random.nextInt(2), random.nextInt(7) - 3, random.nextInt(16));
+            } else if (manyStores || random.nextInt(4) == 0) {
+                same("store", random.nextInt(3), random.nextInt(7) - 3, random.nextInt(16), one, random.nextInt(4));
             } else {
                 same("two", "+-*m<".charAt(random.nextInt(5)), one, random.nextInt(2), other, random.nextInt(2));
             }
