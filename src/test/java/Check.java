@@ -1,3 +1,5 @@
+import java.util.function.Supplier;
+
 /** Counts what a test finds, and tells what is wrong. */
 final class Check {
     private int passed;
@@ -7,6 +9,10 @@ final class Check {
         Object answer();
     }
 
+    interface CallOn {
+        Object answer(Fabricmap x);
+    }
+
     /** What a call answers: its result, or throws. and the exception's name. */
     static String answerOf(Call call) {
         try {
@@ -14,6 +20,10 @@ final class Check {
         } catch (RuntimeException e) {
             return "throws." + e.getClass().getSimpleName();
         }
+    }
+
+    int amount() {
+        return passed + failed;
     }
 
     void due(String what, Object want, Call call) {
@@ -44,6 +54,14 @@ final class Check {
 
     void missing(String what, Call call) {
         due(what, "throws.NoSuchElementException", call);
+    }
+
+    /** A call that is refused, with the exception that is due, and behind which all is as without it. */
+    void refused(String what, String exception, Supplier<Fabricmap> scene, CallOn call) {
+        Fabricmap x = scene.get();
+        due(what, "throws." + exception, () -> call.answer(x));
+        String as = Look.at(scene.get());
+        due(what + ", and what can be seen behind it", as, () -> Look.at(x));
     }
 
     /** Tells the sum and ends the program, with exit code 1 if something was wrong. */
