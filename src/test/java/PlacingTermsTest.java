@@ -184,6 +184,15 @@ public final class PlacingTermsTest {
         C.due("a load and a load behind it", "--", () -> Scenes.bars(x, 1, 3, 1, 12));
         x.place(3, 3, 5);
         C.due("between a store and a load", "mmb--b-m", () -> Scenes.bars(x, 4, 6, 3, 4, 5, 6, 9, 10, 8, 11));
+        Fabricmap y = new Fabricmap();
+        y.interval(8);
+        y.load(0, 0, 5);
+        y.store(0, 0, 5, 0, 1);
+        y.place(0, 0, 10);
+        C.due("a store behind the first node of all", "mmb-bm", () -> Scenes.bars(y, 1, 3, 8, 9, 10, 11, 18, 19));
+        y.lift(0);
+        y.place(1, 3, 10);
+        C.due("the first node of all ahead of a store", "mb--bm", () -> Scenes.bars(y, 0, 0, 1, 2, 9, 9, 10, 11));
     }
 
     /** A number (0), and a load that goes through all places, and a store to the first place, which comes first. */
@@ -278,6 +287,16 @@ public final class PlacingTermsTest {
         return Scenes.bars(x, 1, 1, times);
     }
 
+    /** What bars the operand of a sum that is done at the cell beside it, at the beat 16, at some times. */
+    private static String barsOperand(int distance, int... times) {
+        Fabricmap x = new Fabricmap();
+        x.square(2, 1, 4);
+        x.constant(1);
+        x.two('+', 0, distance, 0, distance);
+        x.place(1, 1, 16);
+        return Scenes.bars(x, 0, 0, times);
+    }
+
     private static void beats() {
         says("from the beat behind the one of the operand's node up to the beat of the other one, so many intervals later"
                 + " as the distance tells, that one aside.");
@@ -285,6 +304,10 @@ public final class PlacingTermsTest {
         C.due("in the next round", "or--o", () -> barsFar(1, 2, 3, 4, 11, 12));
         C.due("two rounds later", "or--o", () -> barsFar(2, 0, 1, 2, 9, 10));
         C.due("three rounds later", "--o", () -> barsFar(3, 0, 7, 8));
+        C.due("the operand behind its user, in the same round", "o--ro", () -> barsOperand(0, 6, 7, 14, 15, 16));
+        C.due("the operand of the round ahead", "o--ro", () -> barsOperand(1, 8, 9, 16, 17, 18));
+        C.due("the operand of two rounds ahead", "o--ro", () -> barsOperand(2, 10, 11, 18, 19, 20));
+        C.due("the operand of three rounds ahead", "o--ro", () -> barsOperand(3, 12, 13, 20, 21, 22));
         Fabricmap x = Scenes.pair(2, 1, 4, 2);
         x.two('-', 0, 1, 0, 3);
         x.place(2, 1, 1);
@@ -761,6 +784,20 @@ public final class PlacingTermsTest {
         C.missing("to it", () -> x.length(2, 0));
         C.due("what they took is free", "---- ---- 0000",
                 () -> takenByRests(x, 0, 'e', 4) + " " + takenByRests(x, 1, 'e', 4) + " " + heldByRests(x, 1, 4));
+        Fabricmap z = Scenes.pair(3, 2, 0, 4);
+        z.constant(5);
+        z.two('*', 2, 0, 2, 0);
+        z.place(1, 1, 2);
+        z.lift(1);
+        z.place(2, 3, 3);
+        z.place(3, 2, 7);
+        C.due("another number may go along its wire", "nee", () -> Scenes.route(z, 3, 0));
+        C.due("by that rest", true, () -> z.isTaken(0, 'e', 1));
+        C.due("which is then free for it no more", 'r', () -> z.bars(1, 1, 2));
+        C.due("till that one goes, too", '-', () -> {
+            z.lift(3);
+            return z.bars(1, 1, 2);
+        });
         says("others stay as they are, and other nodes where they are, till it is placed again.");
         C.due("its operand's and its user's places", "02 05",
                 () -> "" + x.cellOf(0) + x.cellOf(2) + " " + x.timeOf(0) + x.timeOf(2));
@@ -975,6 +1012,20 @@ public final class PlacingTermsTest {
         C.due("one round", "0 0", () -> x.get(0, 0) + " " + x.get(0, 1));
         x.run(16);
         C.due("sixteen rounds", "1 15", () -> x.get(0, 1) + " " + x.get(0, 15));
+        Fabricmap w = new Fabricmap();
+        w.round();
+        w.store(0, 1, 0, 0, 0);
+        w.constant(1);
+        w.first(0, 60);
+        w.place(0, 0, 0);
+        w.place(1, 0, 1);
+        w.place(2, 1, 31);
+        for (int place = 0; place < 16; place++) {
+            w.set(0, place, 99);
+        }
+        C.due("as many beats as the last node needs", 34, () -> w.run(2));
+        C.due("but no further round of those done early", "0 1 99 99",
+                () -> w.get(0, 0) + " " + w.get(0, 1) + " " + w.get(0, 2) + " " + w.get(0, 15));
         C.refused("not all nodes being placed", UNSUPPORTED, Scenes::rich, y -> y.run(1));
         Fabricmap z = onePlace();
         z.set(0, 5, 9);

@@ -286,6 +286,8 @@ public final class RunRowsTest {
         C.due("the time counts once", (numbers * 31 + 31) * 31 * 31 + 32 * 15 + 31, () -> x.checksum());
         x.kill(0);
         C.due("those that go do not count", numbers * 31 + 32 * 15 + 31, () -> x.checksum());
+        x.place(0, 2, 5);
+        C.due("the first node", (numbers * 31 + 32 * 2 + 5) * 31 + 32 * 15 + 31, () -> x.checksum());
         C.due("none placed, and the numbers at first", 7 * power(64), () -> Scenes.twelve().checksum());
     }
 

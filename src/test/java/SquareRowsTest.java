@@ -365,6 +365,11 @@ public final class SquareRowsTest {
         C.due("none of that array is", 0, () -> v.bank(2, 1));
         v.lift(4);
         C.due("the load is no more", 1, () -> v.bank(1, 0));
+        Fabricmap w = new Fabricmap();
+        w.load(3, 0, 0);
+        w.place(0, 0, 0);
+        C.unsupported("the first node is a load of it", () -> w.bank(3, 1));
+        C.due("or of the next array", 0, () -> w.bank(2, 1));
     }
 
     private static void set() {
