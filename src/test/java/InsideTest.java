@@ -44,25 +44,39 @@ public final class InsideTest {
         C.due(what, due, () -> x.isSound());
     }
 
-    private static void loadsAheadOfStores() throws ReflectiveOperationException {
+    /** A store of 7 to the first place of the array 1, and a load (2) at its beat, whose number goes to a place. */
+    private static Fabricmap oneBeat(int array, int place) {
         Fabricmap x = new Fabricmap();
         x.interval(8);
-        x.set(0, 0, 5);
+        x.set(1, 0, 5);
         x.bank(2, 1);
         x.constant(7);
-        x.store(0, 0, 0, 0, 0);
+        x.store(1, 0, 0, 0, 0);
         x.load(2, 0, 0);
-        x.store(1, 1, 0, 2, 0);
+        x.store(array, 1, place, 2, 0);
         x.place(0, 4, 0);
         x.place(1, 3, 2);
         x.place(2, 0, 2);
         x.place(3, 0, 3);
-        dueSound("a load and a store of two arrays at one beat", true, x);
-        row(x, "loop", "arrays")[2] = 0;
-        C.due("the loop would load what it has stored", 7, () -> x.would(1, 1, 0));
-        dueSound("a run of 16 rounds would store something else", false, x);
-        x.run(1);
-        C.due("the loads of a beat ahead of its stores", "5 7", () -> x.get(1, 0) + " " + x.get(0, 0));
+        return x;
+    }
+
+    private static void loadsAheadOfStores() throws ReflectiveOperationException {
+        for (int spot : new int[] {0, 7, 15, 48, 63}) {
+            int array = spot / 16;
+            int place = spot % 16;
+            Fabricmap x = oneBeat(array, place);
+            dueSound("a load and a store of two arrays at one beat", true, x);
+            row(x, "loop", "arrays")[2] = 1;
+            C.due("the loop would load what it has stored", 7, () -> x.would(1, array, place));
+            dueSound("a run of 16 rounds would store something else at " + spot, false, x);
+            x.run(1);
+            C.due("the loads of a beat ahead of its stores", "5 7", () -> x.get(array, place) + " " + x.get(1, 0));
+        }
+        Fabricmap y = oneBeat(0, 0);
+        row(y, "loop", "arrays")[2] = 1;
+        y.constant(1);
+        dueSound("nothing is run if not all nodes are placed", true, y);
     }
 
     /** A round (0) in the cell 0 of 2 by 2, and a sum (1) of it in the cell 1, to which its number goes at once. */
@@ -107,6 +121,9 @@ public final class InsideTest {
         dueSound("a route is missing", false, x);
         row(x, "router", "lengths")[4] = 1;
         dueSound("it is there again", true, x);
+        row(x, "places", "cells")[1] = -1;
+        dueSound("a route to a node that is not placed", false, x);
+        row(x, "places", "cells")[1] = 1;
         row(x, "loop", "distances")[3] = 1;
         dueSound("a round too few", false, x);
     }
