@@ -140,6 +140,10 @@ public final class InsideTest {
         dueSound("a route of no beats", true, y);
         put(y, "dead", 1);
         dueSound("in a dead cell", false, y);
+        put(y, "dead", 0);
+        dueSound("in a whole one", true, y);
+        row(y, "places", "cells")[1] = -1;
+        dueSound("to a node that is not placed", false, y);
         Fabricmap z = neighbours();
         put(z, "cuts", cutAlone(1, 'w'));
         dueSound("cut, the other way", true, z);
