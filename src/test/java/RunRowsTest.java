@@ -317,6 +317,12 @@ public final class RunRowsTest {
         C.due("one of 128, fifteen cells being dead", 1f / 128f, () -> x.share());
         x.kill(3);
         C.due("none, all being dead", 0f, () -> x.share());
+        Fabricmap y = Scenes.twelve();
+        y.square(1, 1, 0);
+        y.interval(1);
+        C.due("none of one", 0f, () -> y.share());
+        y.place(7, 0, 31);
+        C.due("one of one", 1f, () -> y.share());
     }
 
     private static void meanLength() {
